@@ -1,0 +1,156 @@
+/** Promises 12 to 14: undo, keep, restore. */
+public final class HistoryTest {
+    private static final int N = ChargeStages.NONE;
+
+    public static void main(String[] args) {
+        undoes();
+        keepsFourStates();
+        undoesEverythingOfAState();
+        leavesTextAndSnapshot();
+        keepsASnapshot();
+        restores();
+        undoesTheFlagOfAPause();
+        Check.finish();
+    }
+
+    private static void undoes() {
+        ChargeStages x = new ChargeStages();
+        Check.due("undo() of nothing", x.undo(), N);
+        x.setCharge(0, 1);
+        x.setCharge(0, 2);
+        Check.due("states", x.count(12), 2);
+        Check.due("undo()", x.undo(), 1);
+        Check.due("the charge then", x.cell(0, 0), 1);
+        Check.due("undo() to the first", x.undo(), 0);
+        Check.due("the charge at first", x.cell(0, 0), 0);
+        Check.due("undo() of no more", x.undo(), N);
+        Check.due("an error is not recorded", x.setCharge(9, 1), ChargeStages.UNKNOWN);
+        Check.due("nor NONE", x.setCharge(0, 0), N);
+        Check.due("states behind them", x.count(12), 0);
+    }
+
+    private static void keepsFourStates() {
+        ChargeStages x = new ChargeStages();
+        for (int charge = 1; charge <= 7; charge++) {
+            x.setCharge(0, charge);
+            Check.due("states behind " + charge, x.count(12), Math.min(charge, 4));
+        }
+        for (int left = 3; left >= 0; left--) {
+            Check.due("undo() to " + left, x.undo(), left);
+            Check.due("the charge", x.cell(0, 0), left + 3);
+        }
+        Check.due("the oldest ones are dropped", x.undo(), N);
+        x.setCharge(1, 9);
+        x.setCharge(1, 8);
+        x.undo();
+        Check.due("a later act", x.cell(1, 0), 9);
+        Check.due("the other cell", x.cell(0, 0), 3);
+    }
+
+    private static void undoesEverythingOfAState() {
+        ChargeStages x = Check.charging("c50:3200;v3300:400/9;r1;r2/1");
+        x.set(8, 5);
+        x.set(7, 0);
+        x.setCharge(1, 200);
+        for (int passed = 0; passed < 12; passed++) {
+            int[] before = StateOf.row(x);
+            x.pass(1 + passed % 3);
+            x.undo();
+            StateOf.same("pass undone", x, before);
+            x.battery(1 + passed % 6);
+            x.undo();
+            StateOf.same("battery undone", x, before);
+            x.stop();
+            Check.read(x, "r5;c9:3001/9");
+            x.undo();
+            x.undo();
+            StateOf.same("stop and readProfile undone", x, before);
+            x.set(passed % 9, 100);
+            x.pass(3);
+        }
+        ChargeStages y = Check.charging("r9");
+        y.stop();
+        int[] stopped = StateOf.row(y);
+        y.start();
+        y.undo();
+        StateOf.same("start undone", y, stopped);
+        y.battery(1);
+        y.setCharge(0, 50);
+        int[] charged = StateOf.row(y);
+        y.use(20);
+        y.undo();
+        StateOf.same("use undone", y, charged);
+        y.set(1, 7);
+        y.undo();
+        StateOf.same("set undone", y, charged);
+    }
+
+    private static void leavesTextAndSnapshot() {
+        ChargeStages x = new ChargeStages();
+        x.setCharge(0, 5);
+        x.keep();
+        Check.typeText(x, "r1;r2");
+        x.undo();
+        Check.due("the text stays", x.count(13), 5);
+        Check.due("it can be read", x.readProfile(), 2);
+        Check.due("the snapshot stays", x.restore(), 0);
+        Check.due("what it restores", x.cell(0, 0), 5);
+        Check.due("the text stays again", x.count(13), 5);
+        Check.due("its profile", x.count(2), 0);
+    }
+
+    private static void keepsASnapshot() {
+        ChargeStages x = new ChargeStages();
+        Check.due("keep()", x.keep(), 0);
+        Check.due("no act", x.count(12), 0);
+        x.pass(7);
+        Check.due("keep() later", x.keep(), 7);
+        x.pass(5);
+        Check.due("in place of the one that was", x.restore(), 7);
+        Check.due("the tick", x.count(0), 7);
+    }
+
+    private static void restores() {
+        ChargeStages x = Check.charging("c50:3200/9;r4");
+        Check.due("restore() of nothing", x.restore(), N);
+        Check.due("no act", x.count(12), 2);
+        x.pass(3);
+        int[] kept = StateOf.row(x);
+        x.keep();
+        x.set(3, 60);
+        x.pass(5);
+        x.battery(2);
+        int[] later = StateOf.row(x);
+        Check.due("restore()", x.restore(), 3);
+        StateOf.same("restored", x, kept);
+        Check.due("an act", x.count(12), 4);
+        Check.due("undo() of restore()", x.undo(), 3);
+        StateOf.same("restore undone", x, later);
+        Check.due("the snapshot stays", x.restore(), 3);
+        Check.due("restore() again", x.restore(), 3);
+        StateOf.same("restored again", x, kept);
+        x.setCharge(0, 777);
+        x.restore();
+        StateOf.same("changes do not reach the snapshot", x, kept);
+        x.keep();
+        Check.due("an act at each restore()", x.count(12), 4);
+    }
+
+    private static void undoesTheFlagOfAPause() {
+        ChargeStages x = Check.charging("r9");
+        x.set(3, 60);
+        x.pass(1);
+        Check.dueEvent("a pause", x, 0, 3, 0, 0);
+        x.undo();
+        Check.due("its event is undone", x.event(1, 0), N);
+        x.pass(1);
+        Check.dueEvent("a pause again", x, 0, 3, 0, 0);
+        x.keep();
+        x.set(3, 25);
+        x.pass(1);
+        x.restore();
+        x.pass(1);
+        Check.due("the pause goes on behind a restore", x.event(2, 0), N);
+        Check.dueEvent("the pause goes on behind a restore", x, 0, 3, 0, 0);
+    }
+}

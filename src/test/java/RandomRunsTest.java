@@ -1,0 +1,188 @@
+/** Long runs of calls, each answer compared with that of PlainCharger. The same runs every time. */
+public final class RandomRunsTest {
+    private static final int RUNS = 400;
+    private static final int CALLS = 512;
+    private static final int[] LEAST = {100, 0, 50, -30, 0, -30, -30, 0, 0};
+    private static final int[] MOST = {5000, 200, 100, 80, 10, 80, 80, 500, 50};
+
+    private long seed;
+    private ChargeStages x;
+    private PlainCharger y;
+    private String waiting = "";
+
+    public static void main(String[] args) {
+        for (int run = 1; run <= RUNS; run++) {
+            new RandomRunsTest().run(run);
+        }
+        Check.finish();
+    }
+
+    private int upTo(int most) {
+        seed = seed * 6364136223846793005L + 1442695040888963407L;
+        return (int) ((seed >>> 33) % (most + 1));
+    }
+
+    private int from(int least, int most) {
+        return least + upTo(most - least);
+    }
+
+    /** Mostly in the range, at times at its ends or just outside. */
+    private int around(int least, int most) {
+        switch (upTo(19)) {
+            case 0:
+                return least - 1;
+            case 1:
+                return most + 1;
+            case 2:
+                return least;
+            case 3:
+                return most;
+            default:
+                return from(least, most);
+        }
+    }
+
+    private void run(int run) {
+        seed = run * 7919L;
+        x = new ChargeStages();
+        y = new PlainCharger();
+        for (int call = 0; call < CALLS; call++) {
+            String name = "run " + run + ", call " + call + ": ";
+            if (waiting.isEmpty()) {
+                change(name);
+            } else {
+                typeNext(name);
+            }
+            look(name);
+        }
+    }
+
+    private void typeNext(String name) {
+        char next = waiting.charAt(0);
+        waiting = waiting.substring(1);
+        Check.due(name + "type " + (int) next, x.type(next), y.type(next));
+        if (waiting.isEmpty()) {
+            Check.due(name + "readProfile", x.readProfile(), y.readProfile());
+        }
+    }
+
+    private void change(String name) {
+        int kind = upTo(30);
+        if (kind < 9) {
+            int ticks = upTo(3) == 0 ? around(1, 200) : from(1, 6);
+            Check.due(name + "pass " + ticks, x.pass(ticks), y.pass(ticks));
+        } else if (kind < 13) {
+            int which = upTo(40) == 0 ? around(0, 8) : upTo(8);
+            int value = which < 0 || which > 8 ? 0 : valueFor(which);
+            Check.due(name + "set " + which + " " + value, x.set(which, value), y.set(which, value));
+        } else if (kind < 15) {
+            int cell = around(0, y.count(1) - 1);
+            int charge = around(0, upTo(1) == 0 ? 100 : y.setting(0) - 1000);
+            Check.due(name + "setCharge " + cell + " " + charge, x.setCharge(cell, charge),
+                    y.setCharge(cell, charge));
+        } else if (kind == 15) {
+            int cells = around(1, 6);
+            Check.due(name + "battery " + cells, x.battery(cells), y.battery(cells));
+        } else if (kind < 20) {
+            Check.due(name + "start", x.start(), y.start());
+        } else {
+            changeMore(name, kind);
+        }
+    }
+
+    private int valueFor(int which) {
+        if (which == 3 && upTo(2) > 0) {
+            return from(y.setting(5) - 1000, y.setting(6) - 1000);
+        }
+        return around(LEAST[which], MOST[which]);
+    }
+
+    private void changeMore(String name, int kind) {
+        if (kind == 20) {
+            Check.due(name + "stop", x.stop(), y.stop());
+        } else if (kind < 23) {
+            int amount = around(1, Math.max(1, y.count(7)));
+            Check.due(name + "use " + amount, x.use(amount), y.use(amount));
+        } else if (kind < 25) {
+            Check.due(name + "undo", x.undo(), y.undo());
+        } else if (kind == 25) {
+            Check.due(name + "keep", x.keep(), y.keep());
+        } else if (kind == 26) {
+            Check.due(name + "restore", x.restore(), y.restore());
+        } else if (kind < 29) {
+            Check.due(name + "clearText", x.clearText(), y.clearText());
+            waiting = upTo(2) == 0 ? spoiled(profile()) : profile();
+        } else if (kind == 29) {
+            Check.due(name + "type", x.type('c'), y.type('c'));
+        } else {
+            Check.due(name + "readProfile", x.readProfile(), y.readProfile());
+        }
+    }
+
+    private String profile() {
+        StringBuilder text = new StringBuilder();
+        int stages = from(1, upTo(9) == 0 ? 6 : 4);
+        for (int stage = 0; stage < stages; stage++) {
+            text.append(stage > 0 ? ";" : "");
+            int kind = upTo(4);
+            if (kind < 2) {
+                text.append('c').append(around(1, upTo(1) == 0 ? 60 : 2000)).append(':')
+                        .append(around(3000, 4500));
+            } else if (kind < 4) {
+                text.append('v').append(around(3000, 4500)).append(':').append(around(0, 500));
+            } else {
+                text.append('r').append(around(1, upTo(5) == 0 ? 999 : 12));
+            }
+            if (upTo(2) == 0) {
+                text.append('/').append(around(1, upTo(3) == 0 ? 999 : 25));
+            }
+        }
+        return text.toString();
+    }
+
+    private String spoiled(String text) {
+        String signs = "0159:;/cvrx ";
+        int place = upTo(text.length());
+        char sign = signs.charAt(upTo(signs.length() - 1));
+        int behind = Math.min(text.length(), place + upTo(1));
+        return upTo(3) == 0 && place > 0 ? text.substring(0, place)
+                : text.substring(0, place) + sign + text.substring(behind);
+    }
+
+    private void look(String name) {
+        for (int what = -1; what <= 14; what++) {
+            Check.due(name + "count " + what, x.count(what), y.count(what));
+        }
+        for (int cell = -1; cell <= 6; cell++) {
+            int what = upTo(10) - 1;
+            Check.due(name + "cell " + cell + " " + what, x.cell(cell, what), y.cell(cell, what));
+        }
+        int which = upTo(10) - 1;
+        Check.due(name + "setting " + which, x.setting(which), y.setting(which));
+        int stage = upTo(6) - 1;
+        int told = upTo(6) - 1;
+        Check.due(name + "stage " + stage + " " + told, x.stage(stage, told), y.stage(stage, told));
+        int back = upTo(11) - 1;
+        int what = upTo(4) - 1;
+        Check.due(name + "event " + back + " " + what, x.event(back, what), y.event(back, what));
+        int current = around(0, 2000);
+        Check.due(name + "voltage " + current, x.voltage(current), y.voltage(current));
+        Check.due(name + "current", x.current(), y.current());
+        lookAhead(name);
+    }
+
+    private void lookAhead(String name) {
+        int cell = around(0, y.count(1) - 1);
+        int ticks = upTo(3) == 0 ? around(0, 200) : upTo(9);
+        if (upTo(7) == 0) {
+            Check.due(name + "chargeIn " + cell + " " + ticks, x.chargeIn(cell, ticks),
+                    y.chargeIn(cell, ticks));
+        }
+        if (upTo(29) == 0) {
+            Check.due(name + "doneIn", x.doneIn(), y.doneIn());
+        }
+        if (upTo(399) == 0) {
+            Check.due(name + "warmest", x.warmest(), y.warmest());
+        }
+    }
+}
