@@ -12,6 +12,9 @@ public final class BatteryTest {
         constants();
         newObject();
         takesAnotherBattery();
+        batteryLeavesNothingOfTheCells();
+        sixCells();
+        objectsShareNothing();
         setsCharges();
         draws();
         sets();
@@ -100,6 +103,53 @@ public final class BatteryTest {
         x.battery(2);
         x.battery(3);
         Check.due("a cell that comes back is empty", x.cell(2, 7), 0);
+    }
+
+    private static void batteryLeavesNothingOfTheCells() {
+        ChargeStages x = Check.charging("c5:4500");
+        x.set(8, 7);
+        x.setCharge(1, 500);
+        x.pass(1);
+        Check.due("a rest", x.cell(0, 2), 50);
+        Check.due("bled", x.cell(1, 6), 7);
+        x.battery(3);
+        for (int what = 2; what <= 8; what++) {
+            Check.dueCells("nothing is left", x, what, 0, 0, 0);
+        }
+        Check.due("a charge of 0, with no rest", x.setCharge(0, 0), N);
+    }
+
+    private static void sixCells() {
+        ChargeStages x = new ChargeStages();
+        x.battery(6);
+        Check.read(x, "c100:4500");
+        x.set(8, 5);
+        for (int cell = 0; cell < 6; cell++) {
+            x.setCharge(cell, 100 * cell);
+        }
+        x.start();
+        x.pass(1);
+        x.stop();
+        x.use(50);
+        Check.dueCells("six", x, 0, 40, 135, 235, 335, 435, 535);
+        Check.due("the least of six", x.count(7), 40);
+        Check.due("the greatest of six", x.count(8), 535);
+        Check.due("a seventh", x.cell(6, 0), U);
+        Check.due("the charge of the last one later", x.chargeIn(5, 2), 525);
+    }
+
+    private static void objectsShareNothing() {
+        ChargeStages x = new ChargeStages();
+        ChargeStages y = new ChargeStages();
+        x.set(0, 2000);
+        x.setCharge(0, 5);
+        x.type('r');
+        x.keep();
+        Check.due("another object's setting", y.setting(0), 2000);
+        Check.due("another object's charge", y.cell(0, 0), 0);
+        Check.due("another object's text", y.count(13), 0);
+        Check.due("another object's history", y.undo(), N);
+        Check.due("another object's snapshot", y.restore(), N);
     }
 
     private static int eventsOf(ChargeStages x) {

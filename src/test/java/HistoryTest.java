@@ -10,6 +10,8 @@ public final class HistoryTest {
         keepsASnapshot();
         restores();
         undoesTheFlagOfAPause();
+        undoesTheNumbersOfCells();
+        undoesTheLog();
         Check.finish();
     }
 
@@ -152,5 +154,52 @@ public final class HistoryTest {
         x.pass(1);
         Check.due("the pause goes on behind a restore", x.event(2, 0), N);
         Check.dueEvent("the pause goes on behind a restore", x, 0, 3, 0, 0);
+    }
+
+    private static void undoesTheNumbersOfCells() {
+        ChargeStages x = Check.charging("c2000:4500");
+        x.set(1, 200);
+        x.set(2, 77);
+        x.setCharge(0, 500);
+        int[] before = StateOf.row(x);
+        x.setCharge(1, 300);
+        x.keep();
+        x.set(2, 51);
+        x.pass(1);
+        Check.due("spilled", x.cell(0, 5), 520);
+        x.undo();
+        x.undo();
+        x.undo();
+        StateOf.same("what was spilled is undone", x, before);
+        Check.due("restore()", x.restore(), 0);
+        Check.due("the snapshot has another charge", x.cell(1, 0), 300);
+        ChargeStages y = Check.charging("c1:4500");
+        y.pass(1);
+        Check.due("a rest", y.cell(0, 2), 90);
+        y.undo();
+        Check.due("the rest is undone", y.cell(0, 2), 0);
+        ChargeStages z = Check.charging("r1");
+        z.pass(1);
+        Check.due("done once", z.count(10), 1);
+        z.undo();
+        Check.due("being done is undone", z.count(10), 0);
+        z.pass(1);
+        Check.due("done once again", z.count(10), 1);
+    }
+
+    private static void undoesTheLog() {
+        ChargeStages x = Check.charging("r2;r3");
+        x.set(3, 60);
+        x.pass(1);
+        x.keep();
+        Check.dueEvent("a pause", x, 0, 3, 0, 0);
+        x.undo();
+        x.undo();
+        x.pass(3);
+        Check.dueEvent("another event at its place", x, 0, 0, 1, 1);
+        x.restore();
+        Check.dueEvent("the pause of the snapshot", x, 0, 3, 0, 0);
+        x.undo();
+        Check.dueEvent("the other event again", x, 0, 0, 1, 1);
     }
 }

@@ -178,10 +178,10 @@ public final class RandomRunsTest {
             Check.due(name + "chargeIn " + cell + " " + ticks, x.chargeIn(cell, ticks),
                     y.chargeIn(cell, ticks));
         }
-        if (upTo(29) == 0) {
+        if (upTo(9) == 0) {
             Check.due(name + "doneIn", x.doneIn(), y.doneIn());
         }
-        if (upTo(399) == 0) {
+        if (upTo(99) == 0) {
             Check.due(name + "warmest", x.warmest(), y.warmest());
         }
     }
