@@ -108,8 +108,8 @@ public final class ForecastTest {
     }
 
     private static void warmestBetween() {
-        // The held voltage must end in the tick in which the timer of the rest allows it: it ends at
-        // once if the limit of now is below 3100, and a limit of 3100 or more runs into its timer.
+        // Without a resistance a held voltage takes 2000 up to its limit, and runs into its timer; it
+        // ends as it begins just if the limit of now is below the base voltage.
         ChargeStages cold = Check.charging("v3160:10/1");
         cold.set(4, 10);
         cold.set(1, 0);
@@ -120,8 +120,7 @@ public final class ForecastTest {
         Check.due("a limit of 3120 at 29 is not below", cold.warmest(), N);
         cold.set(6, 40);
         Check.due("a limit below at 40", cold.warmest(), 1040);
-        // A limit that is so high that a constant current of one tick does not reach it is a fault:
-        // 90 stored, 3108 + 10 = 3118 at 100; done if 3118 >= 3148 - 3 * (t - 25), so from 35 on.
+        // 90 are stored, which makes 3118 at 100: it is in time if 3148 - 3 * (t - 25) is not above.
         ChargeStages warm = Check.charging("c100:3148/1");
         Check.due("done at the highest", warm.warmest(), 1045);
         warm.set(6, 35);
@@ -132,22 +131,24 @@ public final class ForecastTest {
     }
 
     private static void warmestBelowTheHighest() {
-        // When it is warm, the first stage ends as it begins, and the second one, of a small current,
-        // runs into its timer; when it is cold, the first one fills the cells.
-        ChargeStages x = Check.charging("v3900:5;c1:3900/2");
-        int warmest = x.warmest();
-        int due = N;
-        for (int temperature = 45; temperature >= 0 && due == N; temperature--) {
-            ChargeStages y = Check.charging("v3900:5;c1:3900/2");
-            y.set(3, temperature);
-            for (int ticks = 0; ticks < 500 && y.count(3) == 1; ticks++) {
-                y.pass(1);
-            }
-            due = y.count(3) == 2 ? temperature + 1000 : N;
-        }
-        Check.due("warmest() as tried out", warmest, due);
+        // The first stage ends at 3118 from 53 on, below that at 3226. The second one is in time if
+        // its limit of now is not above 3216 (from 27 on) then, or 3108 (from 63 on).
+        ChargeStages x = Check.charging("c100:3200;c1:3220/1");
+        x.set(6, 80);
+        Check.due("done at 80", x.warmest(), 1080);
+        x.set(6, 63);
+        Check.due("done at 63", x.warmest(), 1063);
+        x.set(6, 62);
+        Check.due("not done from 53 to 62", x.warmest(), 1052);
+        x.set(5, 53);
+        Check.due("not done at all", x.warmest(), N);
+        x.set(5, 52);
+        Check.due("done at the lowest", x.warmest(), 1052);
+        x.set(5, 20);
+        x.set(6, 26);
+        Check.due("not done up to 26", x.warmest(), N);
         ChargeStages one = Check.charging("r1");
-        one.set(6, -5 + 5);
+        one.set(6, 0);
         one.set(3, 80);
         Check.due("one temperature alone", one.warmest(), 1000);
         one.set(5, -30);
