@@ -94,7 +94,7 @@ public final class LanguageTest {
 
     private static void words(String code) {
         for (String word : List.of("package", "import", "throw", "throws", "try", "catch", "finally",
-                "synchronized", "assert", "while", "volatile", "native", "Object", "String",
+                "synchronized", "assert", "volatile", "native",
                 "System\\.(?!arraycopy)", "Exact", "hashCode", "toString", "equals")) {
             boolean found = Pattern.compile("\\b" + word + "\\b").matcher(code).find();
             Check.holds("no " + word, !found);
