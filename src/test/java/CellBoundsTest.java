@@ -203,16 +203,21 @@ public final class CellBoundsTest {
     // Promise 2: "Takes another battery, whose cells are empty, with counts of 0"
     private static void batteryTakesEmptyCells() {
         for (int cells = 1; cells <= 6; cells++) {
-            ChargeStages x = Check.charging("c2000:3000;r1");
+            ChargeStages x = new ChargeStages();
+            Check.read(x, "c101:3000;r1");
             x.battery(6);
             x.set(8, 50);
             x.set(2, 99);
-            x.setCharge(5, 900);
+            x.setCharge(5, 999);
             x.start();
             x.pass(1);
             x.stop();
             x.use(1);
-            Check.due("some is used", x.cell(5, 7), 1);
+            // 9999 makes 99, of which 98 are spilled, and a rest of 99; 50 are bled, 1 is used.
+            int[] last = {949, 4138, 99, 101, 99, 98, 50, 1, 2};
+            for (int what = 0; what <= 8; what++) {
+                Check.due("not empty, " + what, x.cell(5, what), last[what]);
+            }
             Check.due("cells before", x.battery(cells), 6);
             x.battery(6);
             for (int what = 0; what <= 8; what++) {

@@ -32,6 +32,7 @@ public final class HistoryBoundsTest {
         stateIsNotTheHistory();
         stateIsNotTheSnapshot();
         stateIsEverythingElse();
+        stateIsEachNumber();
         countFromZeroTo13();
         countOfAStageWhenCharging();
         countOfLeastAndGreatest();
@@ -454,6 +455,89 @@ public final class HistoryBoundsTest {
         x.pass(1);
         Check.dueEvent("the pause goes on", x, 0, 3, 4, 4);
         Check.dueEvent("the events ahead of it", x, 1, 0, 3, 4);
+    }
+
+    /** A charger of which no number of the state is as it was at first. */
+    private static ChargeStages withAllNumbers() {
+        ChargeStages x = new ChargeStages();
+        x.battery(2);
+        Check.read(x, "c101:3000;r2/1");
+        x.set(8, 50);
+        x.set(2, 99);
+        x.setCharge(1, 999);
+        x.start();
+        x.pass(2);
+        Check.due("at fault", x.count(3), 3);
+        x.use(1);
+        Check.read(x, "r1");
+        x.start();
+        x.set(3, 80);
+        x.pass(1);
+        x.set(3, 25);
+        x.pass(1);
+        Check.due("done", x.count(3), 2);
+        return x;
+    }
+
+    // "A state is everything but ..": each number of it, by undo() and by restore()
+    private static void stateIsEachNumber() {
+        ChargeStages x = withAllNumbers();
+        int[] first = StateOf.row(new ChargeStages());
+        int[] row = StateOf.row(x);
+        for (int what : new int[] {0, 1, 2, 3, 6, 7, 8, 10, 11}) {
+            Check.holds("count " + what + " is not as at first", row[what] != first[what]);
+        }
+        for (int what = 0; what <= 8; what++) {
+            Check.holds("number " + what + " of a cell is not as at first",
+                    x.cell(1, what) != (what == 1 ? 3000 : 0));
+        }
+        x.keep();
+        x.battery(2);
+        x.undo();
+        StateOf.same("undone", x, row);
+        ChargeStages y = withAllNumbers();
+        y.keep();
+        y.start();
+        y.set(3, 80);
+        y.pass(2);
+        y.set(3, 25);
+        y.pass(1);
+        y.battery(2);
+        y.restore();
+        StateOf.same("restored", y, row);
+        ChargeStages z = withAllNumbers();
+        z.start();
+        z.undo();
+        z.undo();
+        Check.due("done is undone", z.count(10), 0);
+        z.undo();
+        z.undo();
+        Check.due("a paused tick is undone", z.count(6), 0);
+        ofANewOneAgain();
+    }
+
+    private static void ofANewOneAgain() {
+        ChargeStages x = new ChargeStages();
+        x.keep();
+        int[] first = StateOf.row(x);
+        Check.read(x, "c101:3000;r2/1;r1");
+        x.set(8, 50);
+        x.set(2, 99);
+        x.setCharge(1, 999);
+        x.start();
+        x.pass(2);
+        x.use(1);
+        x.start();
+        x.set(3, 80);
+        x.pass(1);
+        x.restore();
+        StateOf.same("a new one again", x, first);
+        Check.read(x, "r1");
+        x.start();
+        x.pass(1);
+        Check.due("done", x.count(10), 1);
+        x.restore();
+        StateOf.same("a new one once more", x, first);
     }
 
     // Promise 24: "what: 0 for the tick .. 13 for the length of the text"

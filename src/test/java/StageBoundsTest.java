@@ -478,6 +478,8 @@ public final class StageBoundsTest {
         Check.due("nothing is left of another", x.stage(0, 2), 0);
         Check.due("another timer", x.stage(0, 3), 7);
         Check.due("no more", x.stage(1, 0), U);
+        Check.read(x, "r5");
+        Check.due("no timer any more", x.stage(0, 3), 0);
     }
 
     // Promise 19: "(0 if the stage ends as it begins, if it is paused, or not charging)"
