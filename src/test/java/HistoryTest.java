@@ -50,41 +50,58 @@ public final class HistoryTest {
     }
 
     private static void undoesEverythingOfAState() {
+        for (int rounds = 0; rounds < 12; rounds++) {
+            int[] before = StateOf.row(behindRounds(rounds));
+            ChargeStages passed = behindRounds(rounds);
+            passed.pass(1 + rounds % 3);
+            passed.undo();
+            StateOf.same("pass undone", passed, before);
+            ChargeStages changed = behindRounds(rounds);
+            changed.battery(1 + rounds % 6);
+            changed.undo();
+            StateOf.same("battery undone", changed, before);
+            ChargeStages read = behindRounds(rounds);
+            boolean isIdle = read.stop() == N;
+            Check.due("read", Check.read(read, "r5;c9:3001/9"), 2);
+            read.undo();
+            if (!isIdle) {
+                read.undo();
+            }
+            StateOf.same("stop and readProfile undone", read, before);
+        }
+        undoesOtherActs();
+    }
+
+    /** A charger some rounds later, always the same one for so many rounds. */
+    private static ChargeStages behindRounds(int rounds) {
         ChargeStages x = Check.charging("c50:3200;v3300:400/9;r1;r2/1");
         x.set(8, 5);
         x.set(7, 0);
         x.setCharge(1, 200);
-        for (int passed = 0; passed < 12; passed++) {
-            int[] before = StateOf.row(x);
-            x.pass(1 + passed % 3);
-            x.undo();
-            StateOf.same("pass undone", x, before);
-            x.battery(1 + passed % 6);
-            x.undo();
-            StateOf.same("battery undone", x, before);
-            x.stop();
-            Check.read(x, "r5;c9:3001/9");
-            x.undo();
-            x.undo();
-            StateOf.same("stop and readProfile undone", x, before);
-            x.set(passed % 9, 100);
+        for (int round = 0; round < rounds; round++) {
+            x.set(round % 9, 100);
             x.pass(3);
         }
-        ChargeStages y = Check.charging("r9");
-        y.stop();
-        int[] stopped = StateOf.row(y);
-        y.start();
-        y.undo();
-        StateOf.same("start undone", y, stopped);
-        y.battery(1);
-        y.setCharge(0, 50);
-        int[] charged = StateOf.row(y);
-        y.use(20);
-        y.undo();
-        StateOf.same("use undone", y, charged);
-        y.set(1, 7);
-        y.undo();
-        StateOf.same("set undone", y, charged);
+        return x;
+    }
+
+    private static void undoesOtherActs() {
+        ChargeStages idle = Check.charging("r9");
+        idle.stop();
+        int[] stopped = StateOf.row(idle);
+        idle.start();
+        idle.undo();
+        StateOf.same("start undone", idle, stopped);
+        ChargeStages x = new ChargeStages();
+        x.battery(1);
+        x.setCharge(0, 50);
+        int[] charged = StateOf.row(x);
+        x.use(20);
+        x.undo();
+        StateOf.same("use undone", x, charged);
+        x.set(1, 7);
+        x.undo();
+        StateOf.same("set undone", x, charged);
     }
 
     private static void leavesTextAndSnapshot() {
@@ -116,26 +133,37 @@ public final class HistoryTest {
         ChargeStages x = Check.charging("c50:3200/9;r4");
         Check.due("restore() of nothing", x.restore(), N);
         Check.due("no act", x.count(12), 2);
+        int[] kept = StateOf.row(keptAndLater(false));
+        int[] later = StateOf.row(keptAndLater(true));
+        ChargeStages y = keptAndLater(true);
+        Check.due("restore()", y.restore(), 3);
+        StateOf.same("restored", y, kept);
+        Check.due("an act", y.count(12), 4);
+        Check.due("undo() of restore()", y.undo(), 3);
+        StateOf.same("restore undone", y, later);
+        ChargeStages z = keptAndLater(true);
+        z.restore();
+        z.undo();
+        Check.due("the snapshot stays", z.restore(), 3);
+        Check.due("restore() again", z.restore(), 3);
+        StateOf.same("restored again", z, kept);
+        z.setCharge(0, 777);
+        z.restore();
+        StateOf.same("changes do not reach the snapshot", z, kept);
+        z.keep();
+        Check.due("an act at each restore()", z.count(12), 4);
+    }
+
+    private static ChargeStages keptAndLater(boolean isLater) {
+        ChargeStages x = Check.charging("c50:3200/9;r4");
         x.pass(3);
-        int[] kept = StateOf.row(x);
         x.keep();
-        x.set(3, 60);
-        x.pass(5);
-        x.battery(2);
-        int[] later = StateOf.row(x);
-        Check.due("restore()", x.restore(), 3);
-        StateOf.same("restored", x, kept);
-        Check.due("an act", x.count(12), 4);
-        Check.due("undo() of restore()", x.undo(), 3);
-        StateOf.same("restore undone", x, later);
-        Check.due("the snapshot stays", x.restore(), 3);
-        Check.due("restore() again", x.restore(), 3);
-        StateOf.same("restored again", x, kept);
-        x.setCharge(0, 777);
-        x.restore();
-        StateOf.same("changes do not reach the snapshot", x, kept);
-        x.keep();
-        Check.due("an act at each restore()", x.count(12), 4);
+        if (isLater) {
+            x.set(3, 60);
+            x.pass(5);
+            x.battery(2);
+        }
+        return x;
     }
 
     private static void undoesTheFlagOfAPause() {

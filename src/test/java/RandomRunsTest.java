@@ -1,13 +1,19 @@
-/** Long runs of calls, each answer compared with that of PlainCharger. The same runs every time. */
+/**
+ * Long runs of calls, each answer compared with that of PlainCharger. The same runs every time, and
+ * none with more calls than the document's 512.
+ */
 public final class RandomRunsTest {
-    private static final int RUNS = 400;
+    private static final int RUNS = 3000;
     private static final int CALLS = 512;
+    private static final int MOST_CALLS_OF_A_STEP = 6;
+    private static final int CALLS_OF_ALL_COUNTS = 16;
     private static final int[] LEAST = {100, 0, 50, -30, 0, -30, -30, 0, 0};
     private static final int[] MOST = {5000, 200, 100, 80, 10, 80, 80, 500, 50};
 
     private long seed;
     private ChargeStages x;
     private PlainCharger y;
+    private int calls;
     private String waiting = "";
 
     public static void main(String[] args) {
@@ -46,23 +52,33 @@ public final class RandomRunsTest {
         seed = run * 7919L;
         x = new ChargeStages();
         y = new PlainCharger();
-        for (int call = 0; call < CALLS; call++) {
-            String name = "run " + run + ", call " + call + ": ";
+        while (calls + MOST_CALLS_OF_A_STEP + CALLS_OF_ALL_COUNTS <= CALLS) {
+            String name = "run " + run + ", call " + calls + ": ";
             if (waiting.isEmpty()) {
                 change(name);
             } else {
                 typeNext(name);
             }
             look(name);
+            look(name);
         }
+        for (int what = -1; what <= 14; what++) {
+            due("run " + run + ", at last: count " + what, x.count(what), y.count(what));
+        }
+        Check.holds("run " + run + " has at most 512 calls", calls <= CALLS);
+    }
+
+    private void due(String call, int got, int want) {
+        calls++;
+        Check.due(call, got, want);
     }
 
     private void typeNext(String name) {
         char next = waiting.charAt(0);
         waiting = waiting.substring(1);
-        Check.due(name + "type " + (int) next, x.type(next), y.type(next));
+        due(name + "type " + (int) next, x.type(next), y.type(next));
         if (waiting.isEmpty()) {
-            Check.due(name + "readProfile", x.readProfile(), y.readProfile());
+            due(name + "readProfile", x.readProfile(), y.readProfile());
         }
     }
 
@@ -70,21 +86,21 @@ public final class RandomRunsTest {
         int kind = upTo(30);
         if (kind < 9) {
             int ticks = upTo(3) == 0 ? around(1, 200) : from(1, 6);
-            Check.due(name + "pass " + ticks, x.pass(ticks), y.pass(ticks));
+            due(name + "pass " + ticks, x.pass(ticks), y.pass(ticks));
         } else if (kind < 13) {
             int which = upTo(40) == 0 ? around(0, 8) : upTo(8);
             int value = which < 0 || which > 8 ? 0 : valueFor(which);
-            Check.due(name + "set " + which + " " + value, x.set(which, value), y.set(which, value));
+            due(name + "set " + which + " " + value, x.set(which, value), y.set(which, value));
         } else if (kind < 15) {
             int cell = around(0, y.count(1) - 1);
             int charge = around(0, upTo(1) == 0 ? 100 : y.setting(0) - 1000);
-            Check.due(name + "setCharge " + cell + " " + charge, x.setCharge(cell, charge),
+            due(name + "setCharge " + cell + " " + charge, x.setCharge(cell, charge),
                     y.setCharge(cell, charge));
         } else if (kind == 15) {
             int cells = around(1, 6);
-            Check.due(name + "battery " + cells, x.battery(cells), y.battery(cells));
+            due(name + "battery " + cells, x.battery(cells), y.battery(cells));
         } else if (kind < 20) {
-            Check.due(name + "start", x.start(), y.start());
+            due(name + "start", x.start(), y.start());
         } else {
             changeMore(name, kind);
         }
@@ -99,23 +115,23 @@ public final class RandomRunsTest {
 
     private void changeMore(String name, int kind) {
         if (kind == 20) {
-            Check.due(name + "stop", x.stop(), y.stop());
+            due(name + "stop", x.stop(), y.stop());
         } else if (kind < 23) {
             int amount = around(1, Math.max(1, y.count(7)));
-            Check.due(name + "use " + amount, x.use(amount), y.use(amount));
+            due(name + "use " + amount, x.use(amount), y.use(amount));
         } else if (kind < 25) {
-            Check.due(name + "undo", x.undo(), y.undo());
+            due(name + "undo", x.undo(), y.undo());
         } else if (kind == 25) {
-            Check.due(name + "keep", x.keep(), y.keep());
+            due(name + "keep", x.keep(), y.keep());
         } else if (kind == 26) {
-            Check.due(name + "restore", x.restore(), y.restore());
+            due(name + "restore", x.restore(), y.restore());
         } else if (kind < 29) {
-            Check.due(name + "clearText", x.clearText(), y.clearText());
+            due(name + "clearText", x.clearText(), y.clearText());
             waiting = upTo(2) == 0 ? spoiled(profile()) : profile();
         } else if (kind == 29) {
-            Check.due(name + "type", x.type('c'), y.type('c'));
+            due(name + "type", x.type('c'), y.type('c'));
         } else {
-            Check.due(name + "readProfile", x.readProfile(), y.readProfile());
+            due(name + "readProfile", x.readProfile(), y.readProfile());
         }
     }
 
@@ -150,39 +166,46 @@ public final class RandomRunsTest {
     }
 
     private void look(String name) {
-        for (int what = -1; what <= 14; what++) {
-            Check.due(name + "count " + what, x.count(what), y.count(what));
+        int kind = upTo(15);
+        if (kind < 5) {
+            int what = upTo(13);
+            due(name + "count " + what, x.count(what), y.count(what));
+        } else if (kind < 9) {
+            int cell = upTo(5) == 0 ? around(0, y.count(1) - 1) : upTo(y.count(1) - 1);
+            int what = upTo(9) == 0 ? around(0, 8) : upTo(8);
+            due(name + "cell " + cell + " " + what, x.cell(cell, what), y.cell(cell, what));
+        } else if (kind == 9) {
+            int which = around(0, 8);
+            due(name + "setting " + which, x.setting(which), y.setting(which));
+        } else if (kind == 10) {
+            int stage = around(0, Math.max(0, y.count(2) - 1));
+            int told = around(0, 4);
+            due(name + "stage " + stage + " " + told, x.stage(stage, told), y.stage(stage, told));
+        } else if (kind < 13) {
+            int back = upTo(1) == 0 ? 0 : around(0, 10);
+            int what = around(0, 2);
+            due(name + "event " + back + " " + what, x.event(back, what), y.event(back, what));
+        } else if (kind == 13) {
+            int current = around(0, 2000);
+            due(name + "voltage " + current, x.voltage(current), y.voltage(current));
+        } else if (kind == 14) {
+            due(name + "current", x.current(), y.current());
+        } else {
+            lookAhead(name);
         }
-        for (int cell = -1; cell <= 6; cell++) {
-            int what = upTo(10) - 1;
-            Check.due(name + "cell " + cell + " " + what, x.cell(cell, what), y.cell(cell, what));
-        }
-        int which = upTo(10) - 1;
-        Check.due(name + "setting " + which, x.setting(which), y.setting(which));
-        int stage = upTo(6) - 1;
-        int told = upTo(6) - 1;
-        Check.due(name + "stage " + stage + " " + told, x.stage(stage, told), y.stage(stage, told));
-        int back = upTo(11) - 1;
-        int what = upTo(4) - 1;
-        Check.due(name + "event " + back + " " + what, x.event(back, what), y.event(back, what));
-        int current = around(0, 2000);
-        Check.due(name + "voltage " + current, x.voltage(current), y.voltage(current));
-        Check.due(name + "current", x.current(), y.current());
-        lookAhead(name);
     }
 
     private void lookAhead(String name) {
-        int cell = around(0, y.count(1) - 1);
-        int ticks = upTo(3) == 0 ? around(0, 200) : upTo(9);
-        if (upTo(7) == 0) {
-            Check.due(name + "chargeIn " + cell + " " + ticks, x.chargeIn(cell, ticks),
+        int kind = upTo(19);
+        if (kind < 10) {
+            int cell = around(0, y.count(1) - 1);
+            int ticks = upTo(3) == 0 ? around(0, 200) : upTo(9);
+            due(name + "chargeIn " + cell + " " + ticks, x.chargeIn(cell, ticks),
                     y.chargeIn(cell, ticks));
-        }
-        if (upTo(9) == 0) {
-            Check.due(name + "doneIn", x.doneIn(), y.doneIn());
-        }
-        if (upTo(99) == 0) {
-            Check.due(name + "warmest", x.warmest(), y.warmest());
+        } else if (kind < 19) {
+            due(name + "doneIn", x.doneIn(), y.doneIn());
+        } else {
+            due(name + "warmest", x.warmest(), y.warmest());
         }
     }
 }
