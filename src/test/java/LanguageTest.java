@@ -4,6 +4,7 @@ import java.lang.reflect.Method;
 import java.lang.reflect.Modifier;
 import java.nio.file.Files;
 import java.nio.file.Path;
+import java.util.ArrayList;
 import java.util.Arrays;
 import java.util.List;
 import java.util.Set;
@@ -28,7 +29,9 @@ public final class LanguageTest {
         face();
         fields();
         privateNames();
+        numbersOfClassesFieldsAndParameters();
         words(code);
+        libraryCalls(code);
         rowsAreMadeOnce(code);
         methodsAreShort(code);
         Check.finish();
@@ -92,6 +95,22 @@ public final class LanguageTest {
         }
     }
 
+    /** Rule 11. */
+    private static void numbersOfClassesFieldsAndParameters() {
+        List<Class<?>> classes = new ArrayList<>(List.of(ChargeStages.class.getDeclaredClasses()));
+        classes.add(ChargeStages.class);
+        Check.holds("some twelve classes: " + classes.size(), classes.size() <= 12);
+        for (Class<?> each : classes) {
+            long fields = Arrays.stream(each.getDeclaredFields())
+                    .filter(field -> !Modifier.isStatic(field.getModifiers())).count();
+            Check.holds("some twenty fields of " + each.getName() + ": " + fields, fields <= 20);
+            for (Method method : each.getDeclaredMethods()) {
+                Check.holds("at most seven parameters of " + method.getName(),
+                        method.getParameterCount() <= 7);
+            }
+        }
+    }
+
     private static void words(String code) {
         for (String word : List.of("package", "import", "throw", "throws", "try", "catch", "finally",
                 "synchronized", "assert", "volatile", "native",
@@ -102,6 +121,18 @@ public final class LanguageTest {
         Check.holds("no lambda", !code.contains("->"));
         Check.holds("no method reference", !code.contains("::"));
         Check.holds("no static block", !Pattern.compile("static\\s*\\{").matcher(code).find());
+    }
+
+    /** Rule 4: of the library, only what is on its list, and of that no more than is needed. */
+    private static void libraryCalls(String code) {
+        Matcher call = Pattern.compile("\\b(Math|System|Integer|Long|Arrays|String)\\b(\\.\\w+)?")
+                .matcher(code);
+        Set<String> found = new TreeSet<>();
+        while (call.find()) {
+            found.add(call.group());
+        }
+        Check.holds("what is called of the library: " + found, found.equals(
+                Set.of("Math.max", "Math.min", "Math.floorMod", "System.arraycopy")));
     }
 
     /** Every call would count in the one room, so only constructors and fields make anything. */

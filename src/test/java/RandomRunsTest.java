@@ -10,7 +10,7 @@ public final class RandomRunsTest {
     private static final int[] LEAST = {100, 0, 50, -30, 0, -30, -30, 0, 0};
     private static final int[] MOST = {5000, 200, 100, 80, 10, 80, 80, 500, 50};
 
-    private long seed;
+    private Dice dice;
     private ChargeStages x;
     private PlainCharger y;
     private int calls;
@@ -23,33 +23,8 @@ public final class RandomRunsTest {
         Check.finish();
     }
 
-    private int upTo(int most) {
-        seed = seed * 6364136223846793005L + 1442695040888963407L;
-        return (int) ((seed >>> 33) % (most + 1));
-    }
-
-    private int from(int least, int most) {
-        return least + upTo(most - least);
-    }
-
-    /** Mostly in the range, at times at its ends or just outside. */
-    private int around(int least, int most) {
-        switch (upTo(19)) {
-            case 0:
-                return least - 1;
-            case 1:
-                return most + 1;
-            case 2:
-                return least;
-            case 3:
-                return most;
-            default:
-                return from(least, most);
-        }
-    }
-
     private void run(int run) {
-        seed = run * 7919L;
+        dice = new Dice(run * 7919L);
         x = new ChargeStages();
         y = new PlainCharger();
         while (calls + MOST_CALLS_OF_A_STEP + CALLS_OF_ALL_COUNTS <= CALLS) {
@@ -83,21 +58,21 @@ public final class RandomRunsTest {
     }
 
     private void change(String name) {
-        int kind = upTo(30);
+        int kind = dice.upTo(30);
         if (kind < 9) {
-            int ticks = upTo(3) == 0 ? around(1, 200) : from(1, 6);
+            int ticks = dice.upTo(3) == 0 ? dice.around(1, 200) : dice.from(1, 6);
             due(name + "pass " + ticks, x.pass(ticks), y.pass(ticks));
         } else if (kind < 13) {
-            int which = upTo(40) == 0 ? around(0, 8) : upTo(8);
+            int which = dice.upTo(40) == 0 ? dice.around(0, 8) : dice.upTo(8);
             int value = which < 0 || which > 8 ? 0 : valueFor(which);
             due(name + "set " + which + " " + value, x.set(which, value), y.set(which, value));
         } else if (kind < 15) {
-            int cell = around(0, y.count(1) - 1);
-            int charge = around(0, upTo(1) == 0 ? 100 : y.setting(0) - 1000);
+            int cell = dice.around(0, y.count(1) - 1);
+            int charge = dice.around(0, dice.upTo(1) == 0 ? 100 : y.setting(0) - 1000);
             due(name + "setCharge " + cell + " " + charge, x.setCharge(cell, charge),
                     y.setCharge(cell, charge));
         } else if (kind == 15) {
-            int cells = around(1, 6);
+            int cells = dice.around(1, 6);
             due(name + "battery " + cells, x.battery(cells), y.battery(cells));
         } else if (kind < 20) {
             due(name + "start", x.start(), y.start());
@@ -107,17 +82,17 @@ public final class RandomRunsTest {
     }
 
     private int valueFor(int which) {
-        if (which == 3 && upTo(2) > 0) {
-            return from(y.setting(5) - 1000, y.setting(6) - 1000);
+        if (which == 3 && dice.upTo(2) > 0) {
+            return dice.from(y.setting(5) - 1000, y.setting(6) - 1000);
         }
-        return around(LEAST[which], MOST[which]);
+        return dice.around(LEAST[which], MOST[which]);
     }
 
     private void changeMore(String name, int kind) {
         if (kind == 20) {
             due(name + "stop", x.stop(), y.stop());
         } else if (kind < 23) {
-            int amount = around(1, Math.max(1, y.count(7)));
+            int amount = dice.around(1, Math.max(1, y.count(7)));
             due(name + "use " + amount, x.use(amount), y.use(amount));
         } else if (kind < 25) {
             due(name + "undo", x.undo(), y.undo());
@@ -127,7 +102,7 @@ public final class RandomRunsTest {
             due(name + "restore", x.restore(), y.restore());
         } else if (kind < 29) {
             due(name + "clearText", x.clearText(), y.clearText());
-            waiting = upTo(2) == 0 ? spoiled(profile()) : profile();
+            waiting = dice.upTo(2) == 0 ? spoiled(profile()) : profile();
         } else if (kind == 29) {
             due(name + "type", x.type('c'), y.type('c'));
         } else {
@@ -137,20 +112,20 @@ public final class RandomRunsTest {
 
     private String profile() {
         StringBuilder text = new StringBuilder();
-        int stages = from(1, upTo(9) == 0 ? 6 : 4);
+        int stages = dice.from(1, dice.upTo(9) == 0 ? 6 : 4);
         for (int stage = 0; stage < stages; stage++) {
             text.append(stage > 0 ? ";" : "");
-            int kind = upTo(4);
+            int kind = dice.upTo(4);
             if (kind < 2) {
-                text.append('c').append(around(1, upTo(1) == 0 ? 60 : 2000)).append(':')
-                        .append(around(3000, 4500));
+                text.append('c').append(dice.around(1, dice.upTo(1) == 0 ? 60 : 2000)).append(':')
+                        .append(dice.around(3000, 4500));
             } else if (kind < 4) {
-                text.append('v').append(around(3000, 4500)).append(':').append(around(0, 500));
+                text.append('v').append(dice.around(3000, 4500)).append(':').append(dice.around(0, 500));
             } else {
-                text.append('r').append(around(1, upTo(5) == 0 ? 999 : 12));
+                text.append('r').append(dice.around(1, dice.upTo(5) == 0 ? 999 : 12));
             }
-            if (upTo(2) == 0) {
-                text.append('/').append(around(1, upTo(3) == 0 ? 999 : 25));
+            if (dice.upTo(2) == 0) {
+                text.append('/').append(dice.around(1, dice.upTo(3) == 0 ? 999 : 25));
             }
         }
         return text.toString();
@@ -158,35 +133,35 @@ public final class RandomRunsTest {
 
     private String spoiled(String text) {
         String signs = "0159:;/cvrx ";
-        int place = upTo(text.length());
-        char sign = signs.charAt(upTo(signs.length() - 1));
-        int behind = Math.min(text.length(), place + upTo(1));
-        return upTo(3) == 0 && place > 0 ? text.substring(0, place)
+        int place = dice.upTo(text.length());
+        char sign = signs.charAt(dice.upTo(signs.length() - 1));
+        int behind = Math.min(text.length(), place + dice.upTo(1));
+        return dice.upTo(3) == 0 && place > 0 ? text.substring(0, place)
                 : text.substring(0, place) + sign + text.substring(behind);
     }
 
     private void look(String name) {
-        int kind = upTo(15);
+        int kind = dice.upTo(15);
         if (kind < 5) {
-            int what = upTo(13);
+            int what = dice.upTo(13);
             due(name + "count " + what, x.count(what), y.count(what));
         } else if (kind < 9) {
-            int cell = upTo(5) == 0 ? around(0, y.count(1) - 1) : upTo(y.count(1) - 1);
-            int what = upTo(9) == 0 ? around(0, 8) : upTo(8);
+            int cell = dice.upTo(5) == 0 ? dice.around(0, y.count(1) - 1) : dice.upTo(y.count(1) - 1);
+            int what = dice.upTo(9) == 0 ? dice.around(0, 8) : dice.upTo(8);
             due(name + "cell " + cell + " " + what, x.cell(cell, what), y.cell(cell, what));
         } else if (kind == 9) {
-            int which = around(0, 8);
+            int which = dice.around(0, 8);
             due(name + "setting " + which, x.setting(which), y.setting(which));
         } else if (kind == 10) {
-            int stage = around(0, Math.max(0, y.count(2) - 1));
-            int told = around(0, 4);
+            int stage = dice.around(0, Math.max(0, y.count(2) - 1));
+            int told = dice.around(0, 4);
             due(name + "stage " + stage + " " + told, x.stage(stage, told), y.stage(stage, told));
         } else if (kind < 13) {
-            int back = upTo(1) == 0 ? 0 : around(0, 10);
-            int what = around(0, 2);
+            int back = dice.upTo(1) == 0 ? 0 : dice.around(0, 10);
+            int what = dice.around(0, 2);
             due(name + "event " + back + " " + what, x.event(back, what), y.event(back, what));
         } else if (kind == 13) {
-            int current = around(0, 2000);
+            int current = dice.around(0, 2000);
             due(name + "voltage " + current, x.voltage(current), y.voltage(current));
         } else if (kind == 14) {
             due(name + "current", x.current(), y.current());
@@ -196,10 +171,10 @@ public final class RandomRunsTest {
     }
 
     private void lookAhead(String name) {
-        int kind = upTo(19);
+        int kind = dice.upTo(19);
         if (kind < 10) {
-            int cell = around(0, y.count(1) - 1);
-            int ticks = upTo(3) == 0 ? around(0, 200) : upTo(9);
+            int cell = dice.around(0, y.count(1) - 1);
+            int ticks = dice.upTo(3) == 0 ? dice.around(0, 200) : dice.upTo(9);
             due(name + "chargeIn " + cell + " " + ticks, x.chargeIn(cell, ticks),
                     y.chargeIn(cell, ticks));
         } else if (kind < 19) {
